@@ -1,0 +1,104 @@
+/** Longer steps on a store, and the numbers that its views answer. */
+final class Kit {
+    static final int[] NO_CLIENTS = {-1, 3, 4, Integer.MIN_VALUE, Integer.MAX_VALUE};
+    static final int[] NO_KEYS = {-1, 8, 9, Integer.MIN_VALUE, Integer.MAX_VALUE};
+    static final int UP = 1 << 30;
+
+    private Kit() {
+    }
+
+    /** Delivers the first message of the line until there is none. */
+    static void deliverAll(EpochStore x) {
+        int delivered = x.deliver(0);
+        for (int i = 0; i < 500 && delivered != EpochStore.NONE; i++) {
+            delivered = x.deliver(0);
+        }
+    }
+
+    static void loseAll(EpochStore x) {
+        boolean lost = x.lose(0);
+        for (int i = 0; i < 24 && lost; i++) {
+            lost = x.lose(0);
+        }
+    }
+
+    /** A store whose master 2 has log 0 alone; the client 0 knows it. Versions begin at 20. */
+    static EpochStore withOneLog() {
+        EpochStore x = new EpochStore();
+        x.stop(1, 1);
+        x.stop(1, 2);
+        x.recover(0);
+        x.find(0);
+        x.pull(0, 0);
+        x.pull(1, 0);
+        return x;
+    }
+
+    /** Client c's new transaction is open, with an empty line before and after. */
+    static void open(EpochStore x, int c) {
+        x.begin(c);
+        deliverAll(x);
+    }
+
+    static void put(EpochStore x, int c, int k, int v) {
+        open(x, c);
+        x.write(c, k, v);
+        x.commit(c);
+        deliverAll(x);
+    }
+
+    /** A write of client c that gets no further than log 2, as all other messages are lost. */
+    static void toLogTwoAlone(EpochStore x, int c, int k, int v) {
+        open(x, c);
+        x.write(c, k, v);
+        x.commit(c);
+        x.deliver(0);
+        x.lose(0);
+        x.lose(0);
+        x.deliver(0);
+        x.lose(0);
+        x.giveUp(c);
+    }
+
+    /** Client c reads key k, which is written already above its read version, and fails. */
+    static void conflict(EpochStore x, int c, int k) {
+        open(x, c);
+        x.read(c, k);
+        x.write(c, 7 - k, 1);
+        x.commit(c);
+        deliverAll(x);
+    }
+
+    static int status(int state, int readVersion, int version) {
+        return state + 16 * readVersion + 65536 * version;
+    }
+
+    static int message(int type, int number, int epoch, int version) {
+        return type + 16 * number + 256 * epoch + 65536 * version;
+    }
+
+    /** A log or storage that is up. */
+    static int server(int records, int epoch, int version) {
+        return records + 128 * epoch + 2048 * version + UP;
+    }
+
+    static int master(int questions, int onWay, int last) {
+        return questions + 16 * onWay + 256 * last;
+    }
+
+    /** All that can be seen of a store, to tell that a call changed nothing. */
+    static String seen(EpochStore x) {
+        StringBuilder text = new StringBuilder();
+        for (int i = 0; i < 3; i++) {
+            text.append(x.coordinator(i)).append(' ').append(x.log(i)).append(' ');
+            text.append(x.storage(i)).append(' ').append(x.status(i)).append(' ');
+        }
+        for (int e = 1; e <= 9; e++) {
+            text.append(x.master(e)).append(' ').append(x.committed(e)).append(' ');
+        }
+        for (int k = 0; k < x.messages(); k++) {
+            text.append(x.message(k)).append(' ');
+        }
+        return text.toString();
+    }
+}
