@@ -403,7 +403,7 @@ public final class EpochStore {
         }
 
         boolean has(int k) {
-            return (keys & 1 << k) != 0;
+            return (keys & (1 << k)) != 0;
         }
     }
 
@@ -589,7 +589,7 @@ public final class EpochStore {
             questions[questionCount] = new Question(questionsEver, m.number, m.transaction);
             questionCount++;
             for (int l = 0; l < LOGS; l++) {
-                if ((members & 1 << l) != 0) {
+                if ((members & (1 << l)) != 0) {
                     line.send(CONFIRM, l, epoch).question = questionsEver;
                 }
             }
@@ -660,7 +660,7 @@ public final class EpochStore {
 
         private boolean findsConflict(int resolver, Message m) {
             for (int k = resolver * SHARE; k < (resolver + 1) * SHARE; k++) {
-                if ((m.noted & 1 << k) != 0 && latestWrite[k] > m.version) {
+                if ((m.noted & (1 << k)) != 0 && latestWrite[k] > m.version) {
                     return true;
                 }
             }
@@ -687,7 +687,7 @@ public final class EpochStore {
         private int pushToOthers(OnWay way, Line line) {
             int sent = 0;
             for (int l = 0; l < LOGS; l++) {
-                if ((members & ~way.acknowledged & 1 << l) != 0) {
+                if ((members & ~way.acknowledged & (1 << l)) != 0) {
                     Message m = line.send(PUSH, l, epoch);
                     m.version = way.entry.version;
                     m.entry = way.entry;
@@ -808,7 +808,7 @@ public final class EpochStore {
         int count;
 
         Storage(int number) {
-            ownKeys = (1 << SHARE) - 1 << number * SHARE;
+            ownKeys = ((1 << SHARE) - 1) << (number * SHARE);
         }
 
         int code() {

@@ -69,6 +69,38 @@ final class Kit {
         deliverAll(x);
     }
 
+    /**
+     * A store whose storage 0 has the records 11 and 21 of log 2 alone, and is at 21 in epoch 1; then
+     * epoch 2 was begun without log 2, from version 10. Client 0 knows it.
+     */
+    static EpochStore withAStorageAhead() {
+        EpochStore x = new EpochStore();
+        toLogTwoAlone(x, 1, 0, 1);
+        for (int i = 0; i < 9; i++) {
+            conflict(x, 2, 0);
+        }
+        toLogTwoAlone(x, 1, 1, 2);
+        x.pull(0, 2);
+        x.pull(0, 2);
+        x.stop(1, 2);
+        x.recover(0);
+        x.find(0);
+        return x;
+    }
+
+    /** Clients 0 and 1 are open at 10, have written, and have sent their COMMITs. */
+    static EpochStore withTwoCommits() {
+        EpochStore x = new EpochStore();
+        x.begin(0);
+        x.begin(1);
+        deliverAll(x);
+        x.write(0, 0, 1);
+        x.write(1, 1, 1);
+        x.commit(0);
+        x.commit(1);
+        return x;
+    }
+
     static int status(int state, int readVersion, int version) {
         return state + 16 * readVersion + 65536 * version;
     }

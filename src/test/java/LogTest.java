@@ -13,14 +13,7 @@ public final class LogTest {
 
     /** Two records on their way, 11 and 12, and their PUSHes in the line: 11 to 0, 1, 2, then 12 to 0, 1, 2. */
     private static EpochStore twoOnTheirWay() {
-        EpochStore x = new EpochStore();
-        x.begin(0);
-        x.begin(1);
-        Kit.deliverAll(x);
-        x.write(0, 0, 1);
-        x.write(1, 1, 1);
-        x.commit(0);
-        x.commit(1);
+        EpochStore x = Kit.withTwoCommits();
         x.deliver(0);
         x.deliver(0);
         return x;

@@ -52,6 +52,24 @@ public final class MasterTest {
         x.deliver(0);
         DUE.is("not nine", x.master(1), Kit.master(8, 0, 10));
         DUE.is("nothing is sent", x.messages(), 0);
+        EpochStore y = Kit.withOneLog();
+        for (int i = 0; i < 8; i++) {
+            y.begin(0);
+            y.giveUp(0);
+        }
+        for (int i = 0; i < 8; i++) {
+            y.deliver(0);
+        }
+        DUE.is("eight on one log", y.master(2), Kit.master(8, 0, 20));
+        y.deliver(3);
+        y.deliver(7);
+        DUE.is("one of them is done", y.master(2), Kit.master(7, 0, 20));
+        y.begin(0);
+        y.deliver(8);
+        DUE.is("there is room for one more", y.master(2), Kit.master(8, 0, 20));
+        Kit.deliverAll(y);
+        DUE.is("all are done", y.master(2), Kit.master(0, 0, 20));
+        DUE.is("the last of them is open", y.status(0), Kit.status(2, 20, 0));
     }
 
     private static void questionsGetWhatIsCommitted() {
@@ -92,14 +110,7 @@ public final class MasterTest {
 
     /** The ACKs of the second record come before those of the first. */
     private static void commitsInOrder() {
-        EpochStore x = new EpochStore();
-        x.begin(0);
-        x.begin(1);
-        Kit.deliverAll(x);
-        x.write(0, 0, 1);
-        x.write(1, 1, 1);
-        x.commit(0);
-        x.commit(1);
+        EpochStore x = Kit.withTwoCommits();
         for (int i = 0; i < 8; i++) {
             x.deliver(0);
         }
@@ -232,6 +243,10 @@ public final class MasterTest {
         DUE.is("and so does the first one", afterHalfAConflict(7, 3), 5);
         DUE.is("the resolver with a conflict let none pass", afterHalfAConflict(0, 1), 4);
         DUE.is("and so does the second one", afterHalfAConflict(7, 6), 4);
+        DUE.is("key 4 is not the first one's: noted", afterHalfAConflict(4, 3), 5);
+        DUE.is("key 4 is not the first one's: written", afterHalfAConflict(5, 4), 4);
+        DUE.is("key 3 is not the second one's: noted", afterHalfAConflict(3, 4), 5);
+        DUE.is("key 3 is not the second one's: written", afterHalfAConflict(1, 3), 4);
     }
 
     /** A conflict at one key, with a write of another: the state of one that noted the other before. */
@@ -267,15 +282,8 @@ public final class MasterTest {
     }
 
     private static void pushesAgain() {
-        EpochStore x = new EpochStore();
+        EpochStore x = Kit.withTwoCommits();
         DUE.is("nothing on its way", x.push(1), 0);
-        x.begin(0);
-        x.begin(1);
-        Kit.deliverAll(x);
-        x.write(0, 0, 1);
-        x.write(1, 1, 1);
-        x.commit(0);
-        x.commit(1);
         x.deliver(0);
         x.deliver(0);
         x.deliver(1);

@@ -478,6 +478,7 @@ final class Model {
 
     private void enter(Storage storage, Log log) {
         int base = log.bases.get(storage.epoch + 1);
+        int before = storage.at;
         if (storage.records.removeIf(r -> r.version > base)) {
             seen.add("records go");
         }
@@ -487,6 +488,9 @@ final class Model {
         }
         if (log.epoch > storage.epoch + 1) {
             seen.add("over an epoch");
+        }
+        if (log.records.stream().anyMatch(r -> r.version > base && r.version <= before)) {
+            seen.add("a version twice");
         }
         storage.epoch = log.epoch;
     }

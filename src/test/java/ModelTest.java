@@ -13,11 +13,11 @@ public final class ModelTest {
         "CONFIRM when down", "a late READ VERSION", "8 on their way", "too old by START",
         "too old by LAST", "half a conflict", "a whole conflict", "PUSH of another epoch",
         "PUSH when down", "PUSH of what is there", "PUSH with a gap", "several committed by one ACK",
-        "RESULT 4", "RESULT 5", "RESULT 6", "a late RESULT", "late by version",
+        "RESULT 4", "RESULT 5", "RESULT 6", "a late RESULT", "late by version", "late by epoch",
         "read nothing", "read a value", "read " + EpochStore.DOWN, "read " + EpochStore.LATE,
         "read " + EpochStore.OLD, "range " + EpochStore.DOWN, "range " + EpochStore.LATE,
         "range " + EpochStore.OLD, "COMMIT to another master", "records go", "back to the base",
-        "over an epoch"));
+        "over an epoch", "a version twice"));
 
     private final Random random;
     private final EpochStore x = new EpochStore();
@@ -32,7 +32,9 @@ public final class ModelTest {
     private static final int HASTY = 2;
     /** Client 2 opens first and rests, so that its read version gets old; one log, so that versions get far. */
     private static final int PATIENT = 3;
-    private static final int MOODS = 4;
+    /** Log 2 and a storage get ahead of the others in epoch 1, up to versions that epoch 2 gives again. */
+    private static final int AHEAD = 4;
+    private static final int MOODS = 5;
     /** How much of the run is trouble: losses, stops, recoveries. */
     private final int trouble;
     private final boolean inOrder;
@@ -62,11 +64,13 @@ public final class ModelTest {
     }
 
     private void go() {
-        if (mood == PATIENT || mood == UNACKNOWLEDGED || random.nextInt(3) == 0) {
+        if (mood == AHEAD) {
+            logTwoGetsAhead();
+        } else if (mood == PATIENT || mood == UNACKNOWLEDGED || random.nextInt(3) == 0) {
             fewerLogs();
         }
         if (mood == PATIENT) {
-            openAndWrite(2);
+            openAndWrite(2, 4);
         }
         while (left > 0) {
             step(random.nextInt(100));
@@ -83,6 +87,36 @@ public final class ModelTest {
         }
         same("pull", x.pull(0, 0), y.pull(0, 0));
         same("pull", x.pull(1, 0), y.pull(1, 0));
+    }
+
+    private void logTwoGetsAhead() {
+        toLogTwoAlone(0);
+        for (int i = random.nextInt(3); i < 11; i++) {
+            openAndWrite(1, 9);
+            same("read 1 0", x.read(1, 0), y.read(1, 0));
+            same("commit 1", x.commit(1), y.commit(1));
+            deliverSome(0, 2);
+        }
+        toLogTwoAlone(1);
+        for (int i = 0; i < 2; i++) {
+            same("pull 0 2", x.pull(0, 2), y.pull(0, 2));
+        }
+        same("stop 1 2", x.stop(1, 2), y.stop(1, 2));
+        same("recover 0", x.recover(0), y.recover(0));
+        same("find 1", x.find(1), y.find(1));
+        openAndWrite(1, 9);
+    }
+
+    private void toLogTwoAlone(int k) {
+        openAndWrite(0, 9);
+        same("write 0 " + k, x.write(0, k, 6), y.write(0, k, 6));
+        same("commit 0", x.commit(0), y.commit(0));
+        deliverSome(0, 1);
+        same("lose 0", x.lose(0), y.lose(0));
+        same("lose 0", x.lose(0), y.lose(0));
+        deliverSome(0, 1);
+        same("lose 0", x.lose(0), y.lose(0));
+        same("giveUp 0", x.giveUp(0), y.giveUp(0));
     }
 
     private void step(int dice) {
@@ -120,15 +154,16 @@ public final class ModelTest {
         deliverSome(k, random.nextInt(inOrder ? 8 : 3));
     }
 
-    private void openAndWrite(int c) {
-        int k = random.nextInt(8);
+    /** To be open takes four deliveries with one log, eight with three. */
+    private void openAndWrite(int c, int deliveries) {
+        int k = 1 + random.nextInt(7);
         same("begin " + c, x.begin(c), y.begin(c));
-        deliverSome(0, 4);
+        deliverSome(0, deliveries);
         same("write " + c + " " + k, x.write(c, k, 5), y.write(c, k, 5));
     }
 
     private void wholeTransaction(int c) {
-        openAndWrite(c);
+        openAndWrite(c, 4);
         same("commit " + c, x.commit(c), y.commit(c));
         deliverSome(0, 4);
     }

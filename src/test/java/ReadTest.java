@@ -148,18 +148,7 @@ public final class ReadTest {
 
     /** A storage that is at version 21 in epoch 1, and a transaction of epoch 2 at version 20. */
     private static void lateByEpoch() {
-        EpochStore x = new EpochStore();
-        Kit.toLogTwoAlone(x, 1, 0, 1);
-        for (int i = 0; i < 9; i++) {
-            Kit.conflict(x, 2, 0);
-        }
-        Kit.toLogTwoAlone(x, 1, 1, 1);
-        x.pull(0, 2);
-        x.pull(0, 2);
-        DUE.is("at 21 in epoch 1", x.storage(0), Kit.server(2, 1, 21));
-        x.stop(1, 2);
-        x.recover(0);
-        x.find(0);
+        EpochStore x = Kit.withAStorageAhead();
         Kit.open(x, 0);
         DUE.is("open at 20", x.status(0), Kit.status(2, 20, 0));
         DUE.is("late for its epoch alone", x.read(0, 0), EpochStore.LATE);

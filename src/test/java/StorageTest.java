@@ -11,6 +11,8 @@ public final class StorageTest {
         toTheEnd();
         intoANewEpoch();
         overTwoEpochs();
+        toALogThatMissedAnEpoch();
+        aheadOfTheNewEpoch();
         belowTheBase();
         anOlderLog();
         whoIsDown();
@@ -116,6 +118,41 @@ public final class StorageTest {
         Kit.open(x, 0);
         DUE.is("what never was committed", x.read(0, 0), 0);
         DUE.is("what was", x.read(0, 1), 7);
+    }
+
+    /** A log that was down in the first recovery gets the bases of the others in the second. */
+    private static void toALogThatMissedAnEpoch() {
+        EpochStore x = new EpochStore();
+        Kit.put(x, 0, 0, 1);
+        Kit.put(x, 0, 0, 2);
+        x.stop(1, 2);
+        x.recover(0);
+        x.start(1, 2);
+        x.recover(0);
+        DUE.is("from log 1, which has seen both", x.pull(0, 1), 11);
+        DUE.is("the first record", x.storage(0), Kit.server(1, 3, 11));
+        EpochStore y = new EpochStore();
+        Kit.put(y, 0, 0, 1);
+        y.pull(0, 0);
+        y.stop(1, 2);
+        y.recover(0);
+        y.start(1, 2);
+        y.recover(0);
+        DUE.is("nothing is below the base of epoch 2", y.pull(0, 2), 31);
+        DUE.is("so nothing goes", y.storage(0), Kit.server(1, 3, 31));
+    }
+
+    /** The storage has a record 21 of epoch 1, and then one of epoch 2 with the same version. */
+    private static void aheadOfTheNewEpoch() {
+        EpochStore x = Kit.withAStorageAhead();
+        DUE.is("two records of epoch 1", x.storage(0), Kit.server(2, 1, 21));
+        Kit.put(x, 0, 2, 3);
+        DUE.is("version 21 again", x.status(0), Kit.status(4, 20, 21));
+        DUE.is("back to 10 and on to 21", x.pull(0, 1), 21);
+        DUE.is("one record of epoch 2", x.storage(0), Kit.server(1, 2, 21));
+        Kit.open(x, 0);
+        DUE.is("the new one", x.read(0, 2), 3);
+        DUE.is("not the old one", x.read(0, 1), 0);
     }
 
     private static void belowTheBase() {
