@@ -7,10 +7,6 @@ public final class LineTest {
         resultsWithoutAVersion();
         anyMessageMayGo();
         whatIsSentComesBehind();
-        theLineIsFull();
-        deliveringMakesRoom();
-        whoIsNotThere();
-        noMessage();
         DUE.end();
     }
 
@@ -93,80 +89,5 @@ public final class LineTest {
             DUE.is("CONFIRM of log " + l, x.message(1 + l), Kit.message(2, l, 1, 0));
         }
         DUE.is("no more", x.message(4), -1);
-    }
-
-    private static void fillWithAsks(EpochStore x, int count) {
-        for (int i = 0; i < count; i++) {
-            x.begin(2);
-            x.giveUp(2);
-        }
-    }
-
-    private static void theLineIsFull() {
-        EpochStore x = new EpochStore();
-        fillWithAsks(x, 23);
-        x.begin(0);
-        DUE.is("24", x.messages(), 24);
-        DUE.is("the last of them", x.message(23), Kit.message(1, 0, 1, 0));
-        x.begin(1);
-        DUE.is("24 still", x.messages(), 24);
-        DUE.is("the last of them still", x.message(23), Kit.message(1, 0, 1, 0));
-        DUE.is("no message 24", x.message(24), -1);
-        DUE.is("no delivery of 24", x.deliver(24), -1);
-        DUE.is("no loss of 24", x.lose(24), false);
-        x.lose(0);
-        DUE.is("23", x.messages(), 23);
-        DUE.is("what was last", x.message(22), Kit.message(1, 0, 1, 0));
-    }
-
-    private static void deliveringMakesRoom() {
-        EpochStore x = new EpochStore();
-        fillWithAsks(x, 24);
-        DUE.is("an ASK leaves first", x.deliver(0), 1);
-        DUE.is("one CONFIRM has room, two are lost", x.messages(), 24);
-        DUE.is("the one of log 0", x.message(23), Kit.message(2, 0, 1, 0));
-        DUE.is("a question all the same", x.master(1), Kit.master(1, 0, 10));
-        DUE.is("a CONFIRM leaves first", x.deliver(23), 2);
-        DUE.is("for its CONFIRMED", x.message(23), Kit.message(3, 0, 1, 0));
-    }
-
-    private static void whoIsNotThere() {
-        EpochStore x = new EpochStore();
-        x.begin(0);
-        x.begin(1);
-        x.stop(3, 1);
-        DUE.is("an ASK for a stopped master", x.deliver(0), 1);
-        DUE.is("is lost", x.messages(), 1);
-        EpochStore y = new EpochStore();
-        y.begin(0);
-        y.deliver(0);
-        y.stop(1, 1);
-        DUE.is("a CONFIRM for a log that is down", y.deliver(1), 2);
-        DUE.is("is lost", y.messages(), 2);
-        y.start(1, 1);
-        Kit.deliverAll(y);
-        DUE.is("for good", y.status(0), 1);
-        EpochStore z = new EpochStore();
-        z.begin(0);
-        z.deliver(0);
-        z.stop(3, 1);
-        DUE.is("a CONFIRM of a stopped master", z.deliver(0), 2);
-        DUE.is("is answered", z.message(2), Kit.message(3, 0, 1, 0));
-        DUE.is("for nobody", z.deliver(2), 3);
-        DUE.is("two CONFIRMs are left", z.messages(), 2);
-    }
-
-    private static void noMessage() {
-        EpochStore x = new EpochStore();
-        x.begin(0);
-        for (int k : new int[] {-1, 1, 2, 23, 24, 25, Integer.MIN_VALUE, Integer.MAX_VALUE}) {
-            DUE.is("message(" + k + ")", x.message(k), -1);
-            DUE.is("deliver(" + k + ")", x.deliver(k), -1);
-            DUE.is("lose(" + k + ")", x.lose(k), false);
-        }
-        DUE.is("the one is there", x.messages(), 1);
-        DUE.is("the one is lost", x.lose(0), true);
-        DUE.is("none is there", x.messages(), 0);
-        DUE.is("none to lose", x.lose(0), false);
     }
 }

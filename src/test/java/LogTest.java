@@ -5,9 +5,6 @@ public final class LogTest {
     public static void main(String[] args) {
         takesRecordsInOrder();
         acknowledgesWhatItHas();
-        confirmsItsOwnEpoch();
-        takesItsOwnEpoch();
-        noSuchLog();
         DUE.end();
     }
 
@@ -52,50 +49,5 @@ public final class LogTest {
         DUE.is("and not added", x.log(2), Kit.server(2, 1, 12));
         Kit.deliverAll(x);
         DUE.is("committed by that", x.committed(1), 12);
-    }
-
-    private static void confirmsItsOwnEpoch() {
-        EpochStore x = new EpochStore();
-        x.begin(0);
-        x.deliver(0);
-        x.stop(1, 2);
-        x.recover(0);
-        x.start(1, 2);
-        DUE.is("a CONFIRM of an older epoch", x.deliver(0), 2);
-        DUE.is("is not answered", x.messages(), 2);
-        DUE.is("the log that stayed in that epoch", x.deliver(1), 2);
-        DUE.is("answers", x.message(1), Kit.message(3, 2, 1, 0));
-        EpochStore y = new EpochStore();
-        y.recover(0);
-        y.find(0);
-        y.begin(0);
-        y.deliver(0);
-        DUE.is("a CONFIRM of the new epoch", y.deliver(0), 2);
-        DUE.is("is answered", y.message(2), Kit.message(3, 0, 2, 0));
-    }
-
-    private static void takesItsOwnEpoch() {
-        EpochStore x = twoOnTheirWay();
-        x.stop(1, 2);
-        x.recover(0);
-        x.start(1, 2);
-        DUE.is("a PUSH of an older epoch", x.deliver(0), 6);
-        DUE.is("is not taken, nor acknowledged as being below END", x.messages(), 5);
-        DUE.is("log 0", x.log(0), Kit.server(0, 2, 20));
-        DUE.is("the log that stayed", x.deliver(1), 6);
-        DUE.is("takes it", x.log(2), Kit.server(1, 1, 11));
-        DUE.is("and acknowledges", x.message(4), Kit.message(7, 2, 1, 11));
-        x.stop(1, 2);
-        DUE.is("when it is down", x.deliver(3), 6);
-        DUE.is("it does not", x.log(2), Kit.server(1, 1, 11) - Kit.UP);
-    }
-
-    private static void noSuchLog() {
-        EpochStore x = new EpochStore();
-        for (int l : new int[] {-1, 3, 4, Integer.MIN_VALUE, Integer.MAX_VALUE}) {
-            DUE.is("log " + l, x.log(l), -1);
-        }
-        x.stop(1, 2);
-        DUE.is("log 2, down", x.log(2), Kit.server(0, 1, 10) - Kit.UP);
     }
 }

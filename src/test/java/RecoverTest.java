@@ -7,20 +7,9 @@ public final class RecoverTest {
         takesTheLogsThatAreUp();
         fromALogWithMore();
         fromALogWithLess();
-        needsTwoCoordinators();
-        theGreatestEpochCounts();
-        theLogMustBeUpAndOfTheEpoch();
-        nineEpochs();
-        wrongLogs();
         olderMastersGoOn();
         whatWasToldStays();
         DUE.end();
-    }
-
-    private static void refused(String why, EpochStore x, int l) {
-        String before = Kit.seen(x);
-        DUE.is("recover(" + l + "), " + why, x.recover(l), -1);
-        DUE.is("nothing has changed, " + why, Kit.seen(x).equals(before), true);
     }
 
     private static void aNewEpoch() {
@@ -85,73 +74,6 @@ public final class RecoverTest {
         x.pull(0, 2);
         Kit.open(x, 1);
         DUE.is("what log 2 alone had is gone", x.read(1, 1), 6);
-    }
-
-    private static void needsTwoCoordinators() {
-        EpochStore x = new EpochStore();
-        x.stop(0, 1);
-        DUE.is("two are up", x.recover(0), 2);
-        x.stop(0, 2);
-        refused("one is up", x, 0);
-        x.stop(0, 0);
-        refused("none is up", x, 0);
-        x.start(0, 1);
-        x.start(0, 0);
-        DUE.is("two are up again, one with epoch 1", x.recover(0), 3);
-        DUE.is("coordinator 1 has caught up", x.coordinator(1), 19);
-        DUE.is("coordinator 2 has not", x.coordinator(2), 2);
-    }
-
-    private static void theGreatestEpochCounts() {
-        EpochStore x = new EpochStore();
-        x.stop(0, 0);
-        x.stop(1, 0);
-        x.recover(1);
-        x.start(0, 0);
-        x.start(1, 0);
-        x.stop(0, 1);
-        refused("epoch 1 is the log's and one coordinator's, but not the greatest", x, 0);
-        DUE.is("from a log of the greatest", x.recover(1), 3);
-    }
-
-    private static void theLogMustBeUpAndOfTheEpoch() {
-        EpochStore x = new EpochStore();
-        x.stop(1, 2);
-        refused("it is down", x, 2);
-        x.recover(0);
-        refused("it is down and older", x, 2);
-        x.start(1, 2);
-        refused("it is older", x, 2);
-        x.stop(1, 0);
-        x.stop(1, 1);
-        refused("the only one that is up is older", x, 2);
-        refused("the newer is down", x, 0);
-        x.start(1, 1);
-        DUE.is("the newer is up", x.recover(1), 3);
-        DUE.is("the older has caught up", x.log(2), Kit.server(0, 3, 30));
-    }
-
-    private static void nineEpochs() {
-        EpochStore x = new EpochStore();
-        for (int e = 2; e <= 9; e++) {
-            DUE.is("epoch " + e, x.recover(e % 3), e);
-            DUE.is("log 0 in epoch " + e, x.log(0), Kit.server(0, e, 10 * e));
-        }
-        refused("there is no epoch 10", x, 0);
-        DUE.is("coordinator 0", x.coordinator(0), 25);
-        for (int e = 1; e <= 9; e++) {
-            DUE.is("master " + e, x.master(e), Kit.master(0, 0, 10 * e));
-        }
-        x.find(0);
-        Kit.put(x, 0, 7, 7);
-        DUE.is("epoch 9 goes on", x.status(0), Kit.status(4, 90, 91));
-    }
-
-    private static void wrongLogs() {
-        EpochStore x = new EpochStore();
-        for (int l : new int[] {-1, 3, 4, Integer.MIN_VALUE, Integer.MAX_VALUE}) {
-            refused("there is no such log", x, l);
-        }
     }
 
     /** What is on its way in the old epoch never gets all logs; the old master still takes messages. */

@@ -1,7 +1,5 @@
 /** Promises 16 and 20: pull and storage. */
 public final class StorageTest {
-    private static final int[] NO_STORAGES = {-1, 2, 3, Integer.MIN_VALUE, Integer.MAX_VALUE};
-    private static final int[] NO_LOGS = {-1, 3, 4, Integer.MIN_VALUE, Integer.MAX_VALUE};
     private static final Due DUE = new Due("StorageTest");
 
     public static void main(String[] args) {
@@ -13,10 +11,6 @@ public final class StorageTest {
         overTwoEpochs();
         toALogThatMissedAnEpoch();
         aheadOfTheNewEpoch();
-        belowTheBase();
-        anOlderLog();
-        whoIsDown();
-        noSuchStorageOrLog();
         DUE.end();
     }
 
@@ -144,7 +138,7 @@ public final class StorageTest {
 
     /** The storage has a record 21 of epoch 1, and then one of epoch 2 with the same version. */
     private static void aheadOfTheNewEpoch() {
-        EpochStore x = Kit.withAStorageAhead();
+        EpochStore x = Kit.withAStorageAhead(21);
         DUE.is("two records of epoch 1", x.storage(0), Kit.server(2, 1, 21));
         Kit.put(x, 0, 2, 3);
         DUE.is("version 21 again", x.status(0), Kit.status(4, 20, 21));
@@ -153,57 +147,5 @@ public final class StorageTest {
         Kit.open(x, 0);
         DUE.is("the new one", x.read(0, 2), 3);
         DUE.is("not the old one", x.read(0, 1), 0);
-    }
-
-    private static void belowTheBase() {
-        EpochStore x = new EpochStore();
-        Kit.put(x, 0, 0, 1);
-        Kit.put(x, 0, 0, 2);
-        x.pull(0, 0);
-        x.recover(0);
-        DUE.is("it goes on from where it is", x.pull(0, 0), 12);
-        DUE.is("with what it had", x.storage(0), Kit.server(2, 2, 12));
-        EpochStore y = new EpochStore();
-        Kit.put(y, 0, 0, 1);
-        y.pull(0, 0);
-        y.recover(0);
-        DUE.is("a record at the base stays", y.pull(0, 0), 21);
-        DUE.is("as it was", y.storage(0), Kit.server(1, 2, 21));
-    }
-
-    private static void anOlderLog() {
-        EpochStore x = new EpochStore();
-        x.stop(1, 2);
-        x.recover(0);
-        x.start(1, 2);
-        DUE.is("an old log for an old storage", x.pull(0, 2), 10);
-        DUE.is("it is in epoch 1", x.storage(0), Kit.server(0, 1, 10));
-        DUE.is("a new log", x.pull(0, 1), 20);
-        DUE.is("an old log for a new storage", x.pull(0, 2), -1);
-        DUE.is("nothing has changed", x.storage(0), Kit.server(0, 2, 20));
-    }
-
-    private static void whoIsDown() {
-        EpochStore x = new EpochStore();
-        Kit.put(x, 0, 0, 1);
-        x.stop(1, 1);
-        DUE.is("a log that is down", x.pull(0, 1), -1);
-        x.stop(2, 0);
-        DUE.is("a storage that is down", x.pull(0, 0), -1);
-        DUE.is("nothing has changed", x.storage(0), Kit.server(0, 1, 10) - Kit.UP);
-        DUE.is("the other storage", x.pull(1, 0), 11);
-        x.start(2, 0);
-        DUE.is("up again", x.pull(0, 0), 11);
-    }
-
-    private static void noSuchStorageOrLog() {
-        EpochStore x = new EpochStore();
-        for (int s : NO_STORAGES) {
-            DUE.is("pull(" + s + ", 0)", x.pull(s, 0), -1);
-            DUE.is("storage(" + s + ")", x.storage(s), -1);
-        }
-        for (int l : NO_LOGS) {
-            DUE.is("pull(0, " + l + ")", x.pull(0, l), -1);
-        }
     }
 }
